@@ -15,8 +15,10 @@ public final class ProgramTest {
         tooManyRules();
         tooManyParts();
         longTexts();
+        bytesThatWereCutOff();
         theOneBeforeStays();
         theNewOneCounts();
+        manyPrograms();
         Checks.finish();
     }
 
@@ -91,6 +93,11 @@ public final class ProgramTest {
         reads("c1 := 1 %", 8);
         reads("c1 := `", 6);
         reads("c1 := {", 6);
+        reads("c{1 := 1", 1);
+        reads("c`1 := 1", 1);
+        reads("c1 := 1/2", 7);
+        reads("c1 := /2", 6);
+        reads("c1 := 1:2", 7);
         reads("c1 := :", 6);
         // An earlier token that can not stand there comes before a later byte that begins none.
         reads("c1 = $", 3);
@@ -168,6 +175,7 @@ public final class ProgramTest {
         reads("if 1 = 1, 2 = 2 then c1 := 1", 8);
         reads("if 1 = 1 else c1 := 1", 9);
         reads("if 1 = 1 and then c1 := 1", 13);
+        reads("if 1 = 1 c1 := 1", 9);
         reads("if 1 = 1 then and", 14);
         reads("if 1 = 1 then if 1 = 1 then c1 := 1", 14);
         reads("if 1 and 2 = 2 then c1 := 1", 5);
@@ -264,6 +272,23 @@ public final class ProgramTest {
         reads("c 1 ".repeat(100), 4);
     }
 
+    private static void readsCut(String text, int length, int due) {
+        RuleRunner x = new RuleRunner();
+        Checks.type(x, text);
+        Checks.due("end", x.end(length), length);
+        Checks.due("program of '" + text + "' cut to " + length, x.program(), due);
+    }
+
+    private static void bytesThatWereCutOff() {
+        readsCut("c1 := 1", 4, 3);
+        readsCut("c1 := 1 else c1 := 1", 11, 8);
+        readsCut("c1 := server", 11, 6);
+        readsCut("c12 := 1", 2, 2);
+        readsCut("c1 := 2147483648", 15, NONE);
+        readsCut("c1 := 1 $", 8, NONE);
+        readsCut("c1 := 1 $", 0, 0);
+    }
+
     private static void theOneBeforeStays() {
         RuleRunner x = new RuleRunner();
         Checks.due("a fault", Checks.program(x, "c1 := 5,"), 8);
@@ -285,5 +310,22 @@ public final class ProgramTest {
         Checks.due("run of the third", x.run(0, 0), 1);
         Checks.cells("after the third", x, 0, 0, 0, 0, 4);
         Checks.due("count(0): runs of both can be undone", x.count(0), 2);
+    }
+    private static void manyPrograms() {
+        RuleRunner x = new RuleRunner();
+        String eighty = "c1:=1" + "+1".repeat(79);
+        String six = "c1:=1" + " else c1:=1".repeat(5);
+        for (int i = 0; i < 5; i++) {
+            Checks.accepted(x, eighty);
+            Checks.due("a part too much", Checks.program(x, eighty + "+1"), eighty.length() + 1);
+            Checks.due("run of 80 parts", x.run(0, 0), 1);
+            Checks.due("cell(1)", x.cell(1), 80);
+            Checks.accepted(x, effects(8));
+            Checks.due("an effect too much", Checks.program(x, effects(9)), 48);
+            Checks.accepted(x, six);
+            Checks.due("a rule too much", Checks.program(x, six + " else c1:=1"), six.length() + 6);
+            Checks.due("a bracket too deep", Checks.program(x, "c1:=(((((((1)))))))"), 10);
+            Checks.accepted(x, "c1:=((((((1))))))");
+        }
     }
 }
