@@ -4,15 +4,21 @@ import java.nio.charset.StandardCharsets;
 final class Checks {
     private static int wrong = 0;
     private static int looked = 0;
+    private static String sentence = "";
 
     private Checks() {
+    }
+
+    /** Names the document's words that the answers from here on must keep to. */
+    static void about(String words) {
+        sentence = words;
     }
 
     static void due(String call, long got, long want) {
         looked++;
         if (got != want) {
             wrong++;
-            System.out.println(call + " answered " + got + ", due is " + want);
+            System.out.println("[" + sentence + "] " + call + " answered " + got + ", due is " + want);
         }
     }
 
@@ -42,8 +48,21 @@ final class Checks {
         return x.program();
     }
 
+    static void reads(RuleRunner x, String text, int due) {
+        due("program of '" + text + "'", program(x, text), due);
+    }
+
+    /** What a new object answers to the text: NONE, or its fault. */
+    static void reads(String text, int due) {
+        reads(new RuleRunner(), text, due);
+    }
+
     static void accepted(RuleRunner x, String text) {
-        due("program of '" + text + "'", program(x, text), RuleRunner.NONE);
+        reads(x, text, RuleRunner.NONE);
+    }
+
+    static void accepted(String text) {
+        reads(text, RuleRunner.NONE);
     }
 
     static RuleRunner with(String text) {

@@ -15,6 +15,7 @@ public final class FaceTest {
             "int count(int)");
 
     public static void main(String[] args) {
+        Checks.about("The public face");
         Checks.due("REFUSED", RuleRunner.REFUSED, -1);
         Checks.due("NONE", RuleRunner.NONE, -2);
         Checks.due("FULL", RuleRunner.FULL, -3);

@@ -16,6 +16,7 @@ public final class ModelTest {
     private static final int OBJECTS = 5000, CALLS = 450;
 
     public static void main(String[] args) {
+        Checks.about("Promises 1 to 9");
         Random dice = new Random(20261115);
         int accepted = 0, refused = 0;
         for (int i = 0; i < OBJECTS; i++) {
@@ -38,7 +39,7 @@ public final class ModelTest {
         model.calls++;
         int kind = dice.nextInt(20);
         if (kind < 4) {
-            return aProgram(x, model, Texts.any(dice));
+            return aProgram(x, model, RandomTexts.any(dice));
         } else if (kind < 9) {
             int server = number(dice), stamp = number(dice);
             Checks.due("run(" + server + ", " + stamp + ") of '" + model.text + "'",
@@ -365,10 +366,10 @@ public final class ModelTest {
     }
 
     /** Texts that are programs, or nearly, or not at all. */
-    private static final class Texts {
+    private static final class RandomTexts {
         private static final String[] TOKENS = {"if", "then", "else", "and", "server", "stamp", "c", "0", "7",
             "31", "32", "2147483647", "2147483648", "=", "#", "<", ">", "+", "-", "*", ":=", ",", "(", ")",
-            ":", "x", "cc", "\t", "\u00e9", "C", "c1", "c 2", "if 1 = 1 then", "else c1 := 1", ", c1 := 1"};
+            ":", "x", "cc", "\t", "\u00e9", "$", "c1", "c 2", "if 1 = 1 then", "else c1 := 1", ", c1 := 1"};
 
         static String any(Random dice) {
             List<String> tokens = new ArrayList<>();
